@@ -508,7 +508,7 @@ public final class EarTable {
         /** What the rows ahead of a LINE, up to the sum ahead of it, sum up to. */
         long sumAhead(int line, int column) {
             long sum = 0;
-            for (int row = line - 1; isRow(row); row--) {
+            for (int row = line - 1; row >= 0 && isRow(row); row--) {
                 int spot = spotOf(row, column);
                 if (isNarrowNumber(spot)) {
                     sum += contents[spot];
@@ -1089,7 +1089,7 @@ public final class EarTable {
             }
             queued = 0;
             reach(start, 0, NONE);
-            for (int k = 0; k < queued && lengths[goal] == NONE; k++) {
+            for (int k = 0; k < STEPS_MOST && k < queued && lengths[goal] == NONE; k++) {
                 int step = queue[k];
                 for (int key = 0; key < KEYS_MOST; key++) {
                     int opening = step == start ? key : openings[step];

@@ -180,6 +180,10 @@ public final class ChangesTest {
         CHECKS.due("by line, then column: 2", x.quarrel(2), 301);
         EarTable y = Checks.tableOf("row 0 0 0 0 0 0 0 0;".repeat(29) + "sum 0 0 0 0 0 0 0 1;");
         CHECKS.due("the last line and column", y.quarrel(0), 2907);
+        EarTable z = Checks.tableOf("sum 5 0; row 1 1;");
+        CHECKS.due("the first line and column", z.quarrels(), 1);
+        CHECKS.due("the first line and column", z.quarrel(0), 0);
+        CHECKS.due("the first line has no rows", z.right(0), 0);
     }
 
     private static void promise26Right() {

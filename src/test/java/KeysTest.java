@@ -169,6 +169,11 @@ public final class KeysTest {
         dueKey(x, 8, 1, 0, "L1 C@0");
         dueKey(x, 3, 0, 0, "L0 C@0");
         dueKey(x, 7, 5, 0, "L5 C@0");
+        EarTable y = Checks.tableOf("row 1; row 2; row 1; row 2;");
+        y.cut(0, 1, 1);
+        dueKey(y, 7, 2, 0, "L2 C@0");
+        dueKey(y, 8, 2, 0, "E");
+        dueKey(y, 9, 2, 0, "E");
     }
 
     private static void promise15Back() {
@@ -209,6 +214,16 @@ public final class KeysTest {
         }
         CHECKS.due("as many can be gone back on", count, 50);
         CHECKS.duePlace("the first three are gone", x, 3, 0);
+        EarTable y = Checks.tableOf("row 1 2 3 4;");
+        for (int k = 0; k < 60; k++) {
+            y.key(k % 6 < 3 ? 1 : 0);
+        }
+        CHECKS.due("60 moves", y.about(5), 50);
+        for (int k = 59; k >= 10; k--) {
+            y.back();
+            CHECKS.duePlace("back on move " + k, y, 0, Math.min(k % 6, 6 - k % 6));
+        }
+        CHECKS.due("the first ten are gone", y.back(), -1);
     }
 
     private static void promise15NoneBehindAnotherView() {

@@ -113,6 +113,9 @@ public final class TableTest {
         CHECKS.due("table anew: about(4)", x.about(4), 0);
         x.key(3);
         CHECKS.dueTold("table anew: all is told", x, "L1 C@0");
+        Checks.give(x, "row 1; row 2;");
+        x.table();
+        CHECKS.duePlace("table anew, from its second line", x, 0, 0);
         CHECKS.due("table of nothing again", x.table(), 0);
         CHECKS.due("table of nothing again: columns", x.about(0), 0);
         Checks.give(x, "row1-2*2-;\nsum-a*2-\n;");

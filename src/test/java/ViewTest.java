@@ -149,6 +149,17 @@ public final class ViewTest {
         x.key(2);
         x.cut(1, 0, 6);
         CHECKS.duePlace("behind it, sorted the other way", x, 3, 2);
+        EarTable y = Checks.tableOf("row 1; row 1; row 2; row 3; row 4;");
+        y.key(7);
+        y.cut(0, 0, 4);
+        CHECKS.duePlace("the one just ahead of it", y, 3, 0);
+        y.cut(0, 1, 1);
+        CHECKS.duePlace("the last of two ahead of it", y, 1, 0);
+        y.whole();
+        y.key(7);
+        y.set(1, 0, 9);
+        y.cut(0, 1, 1);
+        CHECKS.duePlace("the first line of all is ahead of it", y, 0, 0);
     }
 
     private static void promise13Nowhere() {
