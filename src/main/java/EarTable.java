@@ -133,7 +133,7 @@ public final class EarTable {
         if (spot == NONE || k < 0 || k >= grid.lettersOf(spot)) {
             return NONE;
         }
-        return 'a' - 1 + Names.letterOf(grid.contents[spot], k);
+        return Names.letterOf(grid.contents[spot], k);
     }
 
     public int cut(int column, int what, int value) {
@@ -399,28 +399,33 @@ public final class EarTable {
      */
     private static final class Names {
         private static final int LETTER_BITS = 5;
-        private static final long HEAD_WORD = ('h' - 96L) << 45 | ('e' - 96L) << 40
-                | ('a' - 96L) << 35 | ('d' - 96L) << 30;
-        private static final long ROW_WORD = ('r' - 96L) << 45 | ('o' - 96L) << 40
-                | ('w' - 96L) << 35;
-        private static final long SUM_WORD = ('s' - 96L) << 45 | ('u' - 96L) << 40
-                | ('m' - 96L) << 35;
+        // Letters count from 1 on, because 0 is none.
+        private static final long BEFORE_A = 'a' - 1;
+        private static final long HEAD_WORD = ('h' - BEFORE_A) << 45 | ('e' - BEFORE_A) << 40
+                | ('a' - BEFORE_A) << 35 | ('d' - BEFORE_A) << 30;
+        private static final long ROW_WORD = ('r' - BEFORE_A) << 45 | ('o' - BEFORE_A) << 40
+                | ('w' - BEFORE_A) << 35;
+        private static final long SUM_WORD = ('s' - BEFORE_A) << 45 | ('u' - BEFORE_A) << 40
+                | ('m' - BEFORE_A) << 35;
 
-        /** The letter's number from 1 on, or 0 behind the NAME's end; k is 0 .. 9. */
         static int letterOf(long name, int k) {
-            return (int) (name >>> (LETTER_BITS * (LETTERS_MOST - 1 - k))) & 31;
+            return (int) (BEFORE_A + numberOf(name, k));
         }
 
         static long withLetter(long name, int k, int letter) {
-            return name | (long) letter << (LETTER_BITS * (LETTERS_MOST - 1 - k));
+            return name | (letter - BEFORE_A) << (LETTER_BITS * (LETTERS_MOST - 1 - k));
         }
 
         static int lengthOf(long name) {
             int length = 0;
-            while (length < LETTERS_MOST && letterOf(name, length) != 0) {
+            while (length < LETTERS_MOST && numberOf(name, length) != 0) {
                 length++;
             }
             return length;
+        }
+
+        private static long numberOf(long name, int k) {
+            return name >>> (LETTER_BITS * (LETTERS_MOST - 1 - k)) & 31;
         }
     }
 
@@ -445,7 +450,9 @@ public final class EarTable {
             System.arraycopy(other.widths, 0, widths, 0, SPOTS);
             System.arraycopy(other.kinds, 0, kinds, 0, SPOTS);
             System.arraycopy(other.contents, 0, contents, 0, SPOTS);
-            System.arraycopy(other.sums, 0, sums, 0, LINES_MOST);
+            for (int line = 0; line < LINES_MOST; line++) {
+                sums[line] = other.sums[line];
+            }
             columns = other.columns;
             lines = other.lines;
             levels = other.levels;
@@ -600,7 +607,7 @@ public final class EarTable {
             behind = place;
             while (behind < tape.length && isLetter(tape.byteAt(behind))) {
                 if (behind - place < LETTERS_MOST) {
-                    content = Names.withLetter(content, behind - place, tape.byteAt(behind) - 96);
+                    content = Names.withLetter(content, behind - place, tape.byteAt(behind));
                 }
                 behind++;
             }

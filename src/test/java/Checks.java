@@ -67,7 +67,7 @@ final class Checks {
         return x;
     }
 
-    /** Puts a text behind what is on the TAPE: every feed is filled up with blanks, end() cuts them. */
+    /** Puts a text on the TAPE; the blanks that fill up its last feed are cut by end(). */
     static void give(EarTable x, String text) {
         int before = x.about(6);
         for (int start = 0; start < text.length(); start += 20) {
