@@ -45,6 +45,28 @@ final class Checks {
         due(call + ": column", x.place(1), column);
     }
 
+    /** Gives the text to a new object: FAULT 0 at -1 where there is to be none. */
+    void dueFault(String text, int fault, int place) {
+        EarTable x = new EarTable();
+        give(x, text);
+        due("'" + text + "'", x.table() == -1, fault != 0);
+        due("'" + text + "' fault", x.fault(0), fault);
+        due("'" + text + "' place", x.fault(1), place);
+    }
+
+    void dueShape(String contents, int want) {
+        due("shape of " + contents, rowsOf(contents).shape(0), want);
+    }
+
+    /** What the CELLS of a LINE (or level) hold, each once: a number, its letters, or -. */
+    void dueCells(String text, EarTable x, int line, String want) {
+        StringBuilder got = new StringBuilder();
+        for (int column = 0; column < x.about(0); column += x.cell(line, column, 2)) {
+            got.append(column == 0 ? "" : " ").append(contentOf(x, line, column));
+        }
+        dueText("'" + text + "' line " + line, got.toString(), want);
+    }
+
     void dueText(String call, String got, String want) {
         asked++;
         if (!got.equals(want)) {
@@ -67,6 +89,15 @@ final class Checks {
         return x;
     }
 
+    /** A table of one column, a row for each of the contents. */
+    static EarTable rowsOf(String contents) {
+        StringBuilder text = new StringBuilder();
+        for (String content : contents.split(" ")) {
+            text.append("row ").append(content).append(';');
+        }
+        return tableOf(text.toString());
+    }
+
     /** Puts a text on the TAPE; the blanks that fill up its last feed are cut by end(). */
     static void give(EarTable x, String text) {
         int before = x.about(6);
@@ -85,18 +116,34 @@ final class Checks {
         return word;
     }
 
-    private static String toldAt(EarTable x, int k) {
-        switch (x.told(k, 0)) {
+    private static String contentOf(EarTable x, int line, int column) {
+        switch (x.cell(line, column, 0)) {
             case 0:
-                return "E";
+                return "-";
             case 1:
-                return "H" + x.told(k, 1) + "@" + x.told(k, 2);
+                return "" + x.number(line, column);
             case 2:
-                return "L" + x.told(k, 2);
-            case 3:
-                return "C@" + x.told(k, 2);
+                StringBuilder name = new StringBuilder();
+                for (int k = 0; x.letter(line, column, k) != EarTable.NONE; k++) {
+                    name.append((char) x.letter(line, column, k));
+                }
+                return name.toString();
             default:
                 return "?";
         }
+    }
+
+    private static String toldAt(EarTable x, int k) {
+        int kind = x.told(k, 0);
+        int level = x.told(k, 1);
+        int where = x.told(k, 2);
+        if (kind == 1) {
+            return "H" + level + "@" + where;
+        }
+        // Of the others no level is told, and of an EDGE nothing else at all.
+        if (level != EarTable.NONE || kind == 0 && where != EarTable.NONE) {
+            return "?";
+        }
+        return kind == 0 ? "E" : kind == 2 ? "L" + where : kind == 3 ? "C@" + where : "?";
     }
 }

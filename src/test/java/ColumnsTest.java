@@ -52,33 +52,25 @@ public final class ColumnsTest {
         CHECKS.due("extremes", x.compare(Integer.MIN_VALUE, Integer.MAX_VALUE, 0), -1);
     }
 
-    private static void dueShape(String numbers, int want) {
-        StringBuilder text = new StringBuilder();
-        for (String number : numbers.split(" ")) {
-            text.append("row ").append(number).append(';');
-        }
-        CHECKS.due("shape of " + numbers, Checks.tableOf(text.toString()).shape(0), want);
-    }
-
     private static void promise29Shape() {
-        dueShape("a", 0);
-        dueShape("1", 0);
-        dueShape("- 1 a", 0);
-        dueShape("1 1", 1);
-        dueShape("0 - 0 a 0", 1);
-        dueShape("1 2", 2);
-        dueShape("-1 - -1 3 3", 2);
-        dueShape("2 1", 3);
-        dueShape("2 2 a 1 1 -5", 3);
-        dueShape("1 2 1", 4);
-        dueShape("1 1 2 2 - 2 1 1 0", 4);
-        dueShape("2 1 2", 5);
-        dueShape("2 2 1 1 3 3", 5);
-        dueShape("1 2 1 2", 6);
-        dueShape("2 1 2 1", 6);
-        dueShape("1 1 2 2 1 1 1 2", 6);
-        dueShape("3 1 1 2 2 1", 6);
-        dueShape("-999999 999999 -999999 -999998", 6);
+        CHECKS.dueShape("a", 0);
+        CHECKS.dueShape("1", 0);
+        CHECKS.dueShape("- 1 a", 0);
+        CHECKS.dueShape("1 1", 1);
+        CHECKS.dueShape("0 - 0 a 0", 1);
+        CHECKS.dueShape("1 2", 2);
+        CHECKS.dueShape("-1 - -1 3 3", 2);
+        CHECKS.dueShape("2 1", 3);
+        CHECKS.dueShape("2 2 a 1 1 -5", 3);
+        CHECKS.dueShape("1 2 1", 4);
+        CHECKS.dueShape("1 1 2 2 - 2 1 1 0", 4);
+        CHECKS.dueShape("2 1 2", 5);
+        CHECKS.dueShape("2 2 1 1 3 3", 5);
+        CHECKS.dueShape("1 2 1 2", 6);
+        CHECKS.dueShape("2 1 2 1", 6);
+        CHECKS.dueShape("1 1 2 2 1 1 1 2", 6);
+        CHECKS.dueShape("3 1 1 2 2 1", 6);
+        CHECKS.dueShape("-999999 999999 -999999 -999998", 6);
     }
 
     private static void promise29ShapeInTheView() {

@@ -214,14 +214,19 @@ public final class KeysTest {
         }
         CHECKS.due("as many can be gone back on", count, 50);
         CHECKS.duePlace("the first three are gone", x, 3, 0);
-        EarTable y = Checks.tableOf("row 1 2 3 4;");
+        EarTable y = Checks.tableOf("row 1 2 3;".repeat(3));
+        int[] round = {1, 3, 1, 3, 0, 2, 0, 2};
+        int[] lines = new int[60];
+        int[] columns = new int[60];
         for (int k = 0; k < 60; k++) {
-            y.key(k % 6 < 3 ? 1 : 0);
+            lines[k] = y.place(0);
+            columns[k] = y.place(1);
+            y.key(round[k % 8]);
         }
         CHECKS.due("60 moves", y.about(5), 50);
         for (int k = 59; k >= 10; k--) {
             y.back();
-            CHECKS.duePlace("back on move " + k, y, 0, Math.min(k % 6, 6 - k % 6));
+            CHECKS.duePlace("back on move " + k, y, lines[k], columns[k]);
         }
         CHECKS.due("the first ten are gone", y.back(), -1);
     }

@@ -9,12 +9,7 @@ public final class TableTest {
         promise4Table();
         promise4TableStaysOnFault();
         promise5NoFault();
-        promise5NoToken();
-        promise5TokenThatCannotStand();
-        promise5TooManyLines();
-        promise5Widths();
-        promise5Columns();
-        promise5FirstByPlace();
+        promise5EachFault();
         promise6Cell();
         promise6LinesAndLevelsAtMost();
         promise7Number();
@@ -164,111 +159,14 @@ public final class TableTest {
         CHECKS.due("mended: fault(1)", x.fault(1), -1);
     }
 
-    private static void dueFault(String text, int fault, int place) {
-        EarTable x = new EarTable();
-        Checks.give(x, text);
-        CHECKS.due("'" + text + "'", x.table() == -1, fault != 0);
-        CHECKS.due("'" + text + "' fault", x.fault(0), fault);
-        CHECKS.due("'" + text + "' place", x.fault(1), place);
-    }
-
-    private static void promise5NoToken() {
-        dueFault("row 1 ?;", 1, 6);
-        dueFault("?", 1, 0);
-        dueFault("row A;", 1, 4);
-        dueFault("row 1\t2;", 1, 5);
-        dueFault("row 1\r;", 1, 5);
-        dueFault("row \u00e4;", 1, 4);
-        dueFault("row `;", 1, 4);
-        dueFault("row {;", 1, 4);
-        dueFault("row /;", 1, 4);
-        dueFault("row :;", 1, 4);
-        dueFault("row 1;\0", 1, 6);
-        dueFault("row abcdefghij;", 0, -1);
-        dueFault("row abcdefghijk;", 1, 4);
-        dueFault("row 999999 -999999;", 0, -1);
-        dueFault("row 1 1234567;", 1, 6);
-        dueFault("row -1234567;", 1, 4);
-        dueFault("row 0000001;", 1, 4);
-        dueFault("row 12a;", 1, 4);
-        dueFault("row -1a;", 1, 4);
-        dueFault("row 1 * 2a;", 1, 8);
-        dueFault("row a1;", 0, -1);
-        dueFault("row -a;", 0, -1);
-        dueFault("rowabcdefg 1;", 2, 0);
-        dueFault("rowabcdefgh 1;", 1, 0);
-    }
-
-    private static void promise5TokenThatCannotStand() {
-        dueFault("", 0, -1);
-        dueFault(" \n ", 0, -1);
-        dueFault("1", 2, 0);
-        dueFault(" ;", 2, 1);
-        dueFault("a 1;", 2, 0);
-        dueFault("rows 1;", 2, 0);
-        dueFault("row;", 2, 3);
-        dueFault("row 1;row ;", 2, 10);
-        dueFault("row", 2, 3);
-        dueFault("row ", 2, 4);
-        dueFault("row 1", 2, 5);
-        dueFault("row 1 \n", 2, 7);
-        dueFault("row 1*", 2, 6);
-        dueFault("row *2;", 2, 4);
-        dueFault("row 1*;", 2, 6);
-        dueFault("row 1*a;", 2, 6);
-        dueFault("row 1*-;", 2, 6);
-        dueFault("row 1**2;", 2, 6);
-        dueFault("row 1*2*2;", 2, 7);
-        dueFault("row row;", 2, 4);
-        dueFault("row 1 sum;", 2, 6);
-        dueFault("row 1 head;", 2, 6);
-        dueFault("row 1;;", 2, 6);
-        dueFault("row 1;head a;", 2, 6);
-        dueFault("sum 1;head a;", 2, 6);
-        dueFault("row 1; * ?", 2, 7);
-    }
-
-    private static void promise5TooManyLines() {
-        dueFault("head a;".repeat(3) + "row 1;", 0, -1);
-        dueFault("head a;".repeat(4), 2, 21);
-        dueFault("head a;".repeat(3) + "row 1;".repeat(15) + "sum 1;".repeat(15), 0, -1);
-        dueFault("row 1;".repeat(30) + " row 1;", 2, 181);
-        dueFault("sum 1;".repeat(30) + "sum", 2, 180);
-        dueFault("head a;".repeat(3) + "row 1;".repeat(30) + "head a;", 2, 201);
-        dueFault("row 1;".repeat(30) + "?", 1, 180);
-    }
-
-    private static void promise5Widths() {
-        dueFault("row 1*1;", 0, -1);
-        dueFault("row 1*8;", 0, -1);
-        dueFault("row - * 000008 ;", 0, -1);
-        dueFault("row 1*9;", 3, 6);
-        dueFault("row 1*0;", 3, 6);
-        dueFault("row 1* -1;", 3, 7);
-        dueFault("row 1*999999;", 3, 6);
-        dueFault("row 1 2;row 1*3;", 4, 12);
-        dueFault("row 1 2;row 1*9;", 3, 14);
-    }
-
-    private static void promise5Columns() {
-        dueFault("row 1 2 3 4 5 6 7 8;", 0, -1);
-        dueFault("row 1 2 3 4 5 6 7 8 9;", 4, 20);
-        dueFault("row 1*7 2*2;", 4, 8);
-        dueFault("row 1*7 2*1;", 0, -1);
-        dueFault("head a*2;row 1 2;row 1 2 3;", 4, 25);
-        dueFault("head a*2;row 1 2;row 1 -*2;", 4, 23);
-        dueFault("head a*2;row 1;", 5, 14);
-        dueFault("head a*3;row 1*2 ;", 5, 17);
-        dueFault("row 1;row 1 2", 4, 12);
-    }
-
-    private static void promise5FirstByPlace() {
-        // A CELL that no line has room for is told at its first TOKEN, ahead of what follows it.
-        dueFault("row 1;row 1 2 ?", 4, 12);
-        dueFault("row 1;row 1 2*0;", 4, 12);
-        dueFault("row 1;row 1 2*?;", 4, 12);
-        dueFault("row 1 2;row 1 ?;", 1, 14);
-        dueFault("row 1 2;row 1 row;", 2, 14);
+    private static void promise5EachFault() {
+        String good = "head name fruit*2;row a 1 2;row b 3 -;sum - 4 2;";
+        CHECKS.dueFault(good, 0, -1);
+        CHECKS.dueFault(good.replace("b", "B"), 1, 32);
+        CHECKS.dueFault(good.replace("3 -", "3 - *"), 2, 39);
+        CHECKS.dueFault(good.replace("*2", "*20"), 3, 16);
+        CHECKS.dueFault(good.replace("*2", "*1"), 4, 26);
+        CHECKS.dueFault(good.replace("*2", "*3"), 5, 27);
     }
 
     private static void promise6Cell() {
