@@ -186,6 +186,7 @@ public final class KeyEdgesTest {
         dueEdge(WIDE, "10", 10);
         dueEdge(WIDE, "3 5", 10);
         dueEdge("row 1 2;", "", 10);
+        dueEdge("row 1 2 3;", "1", 10);
         dueEdge("head a*2;head b c;row 1 2;", "", 10);
         // Another CELL, though it holds the same.
         dueMove("head a a;row 1 2;", "", 10, 0, 1);
