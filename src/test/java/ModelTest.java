@@ -1,6 +1,9 @@
 import java.util.Random;
 
-/** Long random runs: EarTable and the model must give the same answers, call for call. */
+/**
+ * Long random runs, and all short texts of some scraps: EarTable and the model must give the same
+ * answers, call for call.
+ */
 public final class ModelTest {
     private static final Checks CHECKS = new Checks("ModelTest");
     private static final int RUNS = 1500;
@@ -9,6 +12,11 @@ public final class ModelTest {
         -9, 8, 9, 30, 31, 50, 100, 1000000, Integer.MAX_VALUE - 1, Integer.MAX_VALUE};
     private static final String[] SCRAPS = {"head", "row", "sum", ";", "*", "-", " ", "\n", "0", "7",
         "9", "1234567", "abcdefghijk", "?", "A", "\u00ff", "\t", "*2", "*9", "x", "--", "-5", "12a"};
+
+    private static final String[] BEGINNINGS = {"", "head a*2;row ", "row 1 2;", "row 1*8;row a"};
+    private static final String[] PIECES = {"row ", "head ", "sum", "a", "1", "-", "*", ";", "*2", "9",
+        "?", " "};
+    private static final int PIECES_MOST = 4;
 
     private final Random random;
     private final EarTable real = new EarTable();
@@ -25,22 +33,45 @@ public final class ModelTest {
         for (int seed = 0; seed < RUNS; seed++) {
             new ModelTest(seed).run(seed);
         }
+        for (String beginning : BEGINNINGS) {
+            readAllFrom(beginning, PIECES_MOST);
+        }
         CHECKS.finish();
+    }
+
+    private static void readAllFrom(String text, int piecesLeft) {
+        new ModelTest(0).read(text);
+        for (int k = 0; k < PIECES.length && piecesLeft > 0; k++) {
+            readAllFrom(text + PIECES[k], piecesLeft - 1);
+        }
+    }
+
+    private void read(String text) {
+        giveText(text);
+        sameTable(text);
+        for (int what = 0; what <= 6; what++) {
+            same("'" + text + "': about", real.about(what), model.about(what));
+        }
     }
 
     private void run(int seed) {
         while (calls < CALLS) {
             if (calls == 0 || random.nextInt(90) == 0) {
-                giveText(seed % 5 == 4 ? spoilt(text()) : text());
-                same("table", real.table(), model.table());
-                same("fault(0)", real.fault(0), model.fault(0));
-                same("fault(1)", real.fault(1), model.fault(1));
+                String text = seed % 5 == 4 ? spoilt(text()) : text();
+                giveText(text);
+                sameTable(text);
                 columns = real.about(0);
                 lines = real.about(1);
             }
             change();
             ask();
         }
+    }
+
+    private void sameTable(String text) {
+        same("'" + text + "': table", real.table(), model.table());
+        same("'" + text + "': fault(0)", real.fault(0), model.fault(0));
+        same("'" + text + "': fault(1)", real.fault(1), model.fault(1));
     }
 
     private void same(String call, long got, long want) {
